@@ -408,7 +408,7 @@ public final class ForumWeights {
                 s = s * SEED_FACTOR + SEED_STEP;
                 int drawn = drawnFrom(left, s >>> SEED_SHIFT);
                 jury[i] = drawn;
-                left &= drawn == NONE ? 0 : ~setOf(drawn);
+                left &= ~setOf(drawn);
             }
         }
 
@@ -439,7 +439,7 @@ public final class ForumWeights {
 
         private boolean isJuror(int person) {
             for (int i = 0; i < jury.length; i++) {
-                if (person != NONE && jury[i] == person) {
+                if (jury[i] == person) {
                     return true;
                 }
             }

@@ -29,11 +29,13 @@ public final class PromiseTest {
         appeals();
         pools();
         juries();
+        juryOfTheFirst();
         saying();
         keptHidden();
         lists();
         listsByQuota();
         listsByGreatness();
+        longestLists();
         hiddenOnesInLists();
         trees();
         deepTrees();
@@ -568,6 +570,20 @@ public final class PromiseTest {
         }
     }
 
+    // Promise 15, a jury of the first numbers
+    private static void juryOfTheFirst() {
+        ForumWeights x = forumWithAPostEach(5);
+        x.rules(30, 100, 1, 0, 1);
+        x.hide(3, 4);
+        // 12345 has an upper half of 0: place 0 of {0, 1, 2}; the next two fall on place 0 as well
+        due("the lowest number is drawn", x.appeal(4, 0), 0);
+        due("the second", x.postOf(4, 21), 1);
+        due("the third", x.postOf(4, 22), 2);
+        due("person 0 says", x.say(4, 0, false), 1);
+        due("person 0 has said", x.say(4, 0, false), NONE);
+        due("person 1 says", x.say(4, 1, false), 2);
+    }
+
     private static ForumWeights forumWithAppeal() {
         ForumWeights x = forumWithAPostEach(6);
         x.rules(30, 100, 1, 0, 1);
@@ -630,6 +646,8 @@ public final class PromiseTest {
         listIs("pinned ones by numbers:", x, 1, 4, 3, 0, 2);
         x.pin(1, false);
         listIs("not pinned any more:", x, 4, 3, 0, 2, 1);
+        x.pin(0, true);
+        listIs("post 0 pinned:", x, 0, 4, 3, 2, 1);
     }
 
     // Promise 18, the newest
@@ -669,6 +687,25 @@ public final class PromiseTest {
         x.mark(1, 3, 1);
         // 3 marked 0 and is marked by 1, so 3's mark has the most worth but for that of 0
         listIs("by the worths of markers:", x, 1, 2, 0, 3, 4, 5);
+    }
+
+    // Promises 17 and 18, as long as it gets
+    private static void longestLists() {
+        ForumWeights x = forum(1);
+        int[] rising = new int[40];
+        int[] falling = new int[40];
+        for (int number = 0; number < 40; number++) {
+            x.post(0, NONE);
+            rising[number] = number;
+            falling[number] = 39 - number;
+        }
+        listIs("40 alike:", x, rising);
+        x.rules(30, 100, 2, 1, 1);
+        listIs("40 from the newest on:", x, falling);
+        for (int number = 0; number < 40; number++) {
+            x.pin(number, true);
+        }
+        listIs("40 pinned:", x, rising);
     }
 
     // Promises 17 and 18, hidden ones
