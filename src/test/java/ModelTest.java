@@ -1,17 +1,21 @@
+import java.util.ArrayList;
 import java.util.List;
 import java.util.Random;
+import java.util.function.Supplier;
+import java.util.function.ToLongFunction;
 
 /** Long runs of calls, the same ones every time: each answer is held against that of PlainForum. */
 public final class ModelTest {
     private static final int RUNS = 400;
-    private static final int CALLS = 512;
+    private static final int RUNS_LOOKED_AT_WHOLE = 80;
     private static final int[] WILD = {Integer.MIN_VALUE, -33, -32, -2, -1, 6, 7, 23, 31, 32, 33, 40, 64,
         Integer.MAX_VALUE};
 
     private static final Checks CHECKS = new Checks("ModelTest");
 
-    private final ForumWeights real = new ForumWeights();
+    private final Forum real = new RealForum();
     private final PlainForum plain = new PlainForum();
+    private final List<ToLongFunction<Forum>> changes = new ArrayList<>();
     private final Random random;
     private final int run;
     private final int likeliestBound;
@@ -27,20 +31,27 @@ public final class ModelTest {
     public static void main(String[] args) {
         for (int run = 0; run < RUNS; run++) {
             ModelTest test = new ModelTest(run);
-            for (int call = 0; call < CALLS; call++) {
-                test.callOnce(call);
+            test.callTillTheLast();
+            test.compareWorths();
+            if (run < RUNS_LOOKED_AT_WHOLE) {
+                test.compareWhole();
             }
-            test.compareAll();
         }
         CHECKS.end();
     }
 
-    private void due(String call, long got, long want) {
-        CHECKS.due("run " + run + ": " + call, got, want);
+    private void due(String call, ToLongFunction<Forum> it) {
+        CHECKS.due("run " + run + ": " + call, it.applyAsLong(real), it.applyAsLong(plain));
     }
 
-    private void due(String call, boolean got, boolean want) {
-        CHECKS.due("run " + run + ": " + call, got, want);
+    /** A call that may change the forum: it is kept, so that it can be made again on a new one. */
+    private void change(String call, ToLongFunction<Forum> it) {
+        due(call, it);
+        changes.add(it);
+    }
+
+    private static long bit(boolean answer) {
+        return answer ? 1 : 0;
     }
 
     /** Mostly a number below a bound, now and then one from far outside. */
@@ -61,36 +72,36 @@ public final class ModelTest {
         return post;
     }
 
-    private void callOnce(int call) {
-        int kind = call < 6 ? random.nextInt(4) : random.nextInt(40);
-        if (kind < 2) {
-            due("person()", real.person(), plain.person());
-        } else if (kind < 12) {
-            write();
-        } else if (kind < 20) {
-            vote();
-        } else if (kind < 24) {
-            govern();
-        } else {
-            ask();
+    /** The 512th call is promised still; the last ones are left for the worths. */
+    private void callTillTheLast() {
+        for (int call = 0; call < RealForum.MOST_CALLS - 7; call++) {
+            int kind = call < 6 ? random.nextInt(4) : random.nextInt(40);
+            if (kind < 2) {
+                change("person()", x -> x.person());
+            } else if (kind < 12) {
+                write();
+            } else if (kind < 20) {
+                vote();
+            } else if (kind < 24) {
+                govern();
+            } else {
+                ask();
+            }
         }
     }
 
     private void write() {
+        int person = some(6);
         // with few marks and answers, pools are large enough for many appeals
         if (random.nextInt(3) == 0 || (isQuiet && random.nextInt(5) != 0)) {
-            int author = some(6);
             int answers = random.nextInt(8) < (isQuiet ? 6 : 3) ? -1 : somePost();
-            due("post(" + author + ", " + answers + ")", real.post(author, answers), plain.post(author, answers));
+            change("post(" + person + ", " + answers + ")", x -> x.post(person, answers));
         } else if (random.nextInt(40) == 0) {
-            int person = some(6);
-            due("takeBack(" + person + ")", real.takeBack(person), plain.takeBack(person));
+            change("takeBack(" + person + ")", x -> x.takeBack(person));
         } else {
-            int person = some(6);
             int post = somePost();
             int how = random.nextInt(3) == 0 ? some(3) - 1 : 1;
-            due("mark(" + person + ", " + post + ", " + how + ")", real.mark(person, post, how),
-                    plain.mark(person, post, how));
+            change("mark(" + person + ", " + post + ", " + how + ")", x -> bit(x.mark(person, post, how)));
         }
     }
 
@@ -99,15 +110,14 @@ public final class ModelTest {
         int kind = random.nextInt(10);
         int post = kind < 3 ? somePost() : kind < 6 ? somePostWith(8, 1) : somePostWith(10, 1);
         if (kind < 3) {
-            due("hide(" + person + ", " + post + ")", real.hide(person, post), plain.hide(person, post));
+            change("hide(" + person + ", " + post + ")", x -> bit(x.hide(person, post)));
         } else if (kind < 6) {
             int seed = random.nextInt();
-            due("appeal(" + post + ", " + seed + ")", real.appeal(post, seed), plain.appeal(post, seed));
+            change("appeal(" + post + ", " + seed + ")", x -> x.appeal(post, seed));
         } else {
             int juror = random.nextBoolean() ? person : plain.postOf(post, 20 + random.nextInt(3));
             boolean stays = random.nextBoolean();
-            due("say(" + post + ", " + juror + ", " + stays + ")", real.say(post, juror, stays),
-                    plain.say(post, juror, stays));
+            change("say(" + post + ", " + juror + ", " + stays + ")", x -> x.say(post, juror, stays));
         }
     }
 
@@ -115,72 +125,57 @@ public final class ModelTest {
         int kind = random.nextInt(3);
         if (kind == 0) {
             int h = plain.about(2) + some(30) - 1;
-            due("hour(" + h + ")", real.hour(h), plain.hour(h));
+            change("hour(" + h + ")", x -> bit(x.hour(h)));
         } else if (kind == 1) {
             int post = somePost();
             boolean it = random.nextInt(3) == 0;
-            due("pin(" + post + ", " + it + ")", real.pin(post, it), plain.pin(post, it));
+            change("pin(" + post + ", " + it + ")", x -> bit(x.pin(post, it)));
         } else {
             int[] r = {some(51), some(1000), random.nextInt(8) == 0 ? some(41) : likeliestBound,
                 random.nextBoolean() ? some(6) : some(21), random.nextBoolean() ? some(3) : some(101)};
-            due("rules", real.rules(r[0], r[1], r[2], r[3], r[4]), plain.rules(r));
+            change("rules", x -> bit(x.rules(r[0], r[1], r[2], r[3], r[4])));
         }
     }
 
     private void ask() {
         int post = somePost();
         int i = some(12);
-        switch (random.nextInt(8)) {
-            case 0:
-                due("lower()", real.lower(), plain.lower());
-                break;
-            case 1:
-                due("upper(" + i + ")", real.upper(i), plain.upper(i));
-                break;
-            case 2:
-                due("weight(" + post + ")", real.weight(post), plain.weight(post));
-                break;
-            case 3:
-                int d = some(8);
-                due("sure(" + i + ", " + d + ")", real.sure(i, d), plain.sure(i, d));
-                break;
-            case 4:
-                due("listed(" + i + ")", real.listed(i), PlainForum.at(plain.wholeList(), i));
-                break;
-            case 5:
-                due("tree(" + post + ", " + i + ")", real.tree(post, i), PlainForum.at(plain.wholeTree(post), i));
-                break;
-            case 6:
-                due("about(" + i + ")", real.about(i), plain.about(i));
-                break;
-            default:
-                int what = some(24);
-                due("postOf(" + post + ", " + what + ")", real.postOf(post, what), plain.postOf(post, what));
-                break;
+        int other = some(24);
+        switch (random.nextInt(9)) {
+            case 0 -> due("lower()", x -> x.lower());
+            case 1 -> due("upper(" + i + ")", x -> x.upper(i));
+            case 2 -> due("weight(" + post + ")", x -> x.weight(post));
+            case 3 -> due("sure(" + i + ", " + other % 8 + ")", x -> x.sure(i, other % 8));
+            case 4 -> due("list()", x -> x.list());
+            case 5 -> due("listed(" + other + ")", x -> x.listed(other));
+            case 6 -> due("tree(" + post + ", " + i + ")", x -> x.tree(post, i));
+            case 7 -> due("about(" + i + ")", x -> x.about(i));
+            default -> due("postOf(" + post + ", " + other + ")", x -> x.postOf(post, other));
         }
     }
 
-    private void compareAll() {
-        List<Integer> list = plain.wholeList();
-        due("list()", real.list(), list.size());
-        for (int i = -1; i <= list.size(); i++) {
-            due("listed(" + i + ")", real.listed(i), PlainForum.at(list, i));
-        }
-        for (int post = -1; post <= plain.about(1); post++) {
-            for (int what = -1; what <= 23; what++) {
-                due("postOf(" + post + ", " + what + ")", real.postOf(post, what), plain.postOf(post, what));
-            }
-            due("weight(" + post + ")", real.weight(post), plain.weight(post));
-            List<Integer> tree = plain.wholeTree(post);
-            for (int i = -1; i <= tree.size(); i++) {
-                due("tree(" + post + ", " + i + ")", real.tree(post, i), PlainForum.at(tree, i));
-            }
-        }
+    private void compareWorths() {
         long[] uppers = new long[plain.about(0)];
         for (int p = 0; p < uppers.length; p++) {
             uppers[p] = real.upper(p);
-            due("upper(" + p + ")", uppers[p], plain.upper(p));
+            CHECKS.due("run " + run + ": upper(" + p + ")", uppers[p], plain.upper(p));
         }
-        due("what marks say of worths", plain.worthsHold(real.lower(), uppers), true);
+        boolean holds = plain.worthsHold(real.lower(), uppers);
+        CHECKS.due("run " + run + ": what marks say of worths", holds, true);
+    }
+
+    private void compareWhole() {
+        CHECKS.same("run " + run, Whole.of(made(RealForum::new)), Whole.of(made(PlainForum::new)));
+    }
+
+    /** A new forum with as many of the run's changes as leave room for the questions. */
+    private Supplier<Forum> made(Supplier<Forum> maker) {
+        return () -> {
+            Forum x = maker.get();
+            for (int k = 0; k < changes.size() && k < Whole.MOST_CALLS_BEFORE; k++) {
+                changes.get(k).applyAsLong(x);
+            }
+            return x;
+        };
     }
 }

@@ -13,7 +13,7 @@ import java.util.TreeSet;
  * The document told a second time, with big numbers, sets and sorting, and by other ways than the class
  * takes, so that the two do not err alike.
  */
-final class PlainForum {
+final class PlainForum implements Forum {
     private static final int NONE = -1;
 
     private static final class Entry {
@@ -50,6 +50,8 @@ final class PlainForum {
     private int clock;
     private int[] rules = {30, 100, 2, 0, 1};
     private final List<Entry> posts = new ArrayList<>();
+    /** Null when a call may have changed it: to find it out again at each question would take too long. */
+    private List<Integer> wholeList;
 
     private boolean isPerson(int p) {
         return 0 <= p && p < people;
@@ -59,17 +61,23 @@ final class PlainForum {
         return 0 <= post && post < posts.size() ? posts.get(post) : null;
     }
 
-    int person() {
+    @Override
+    public int person() {
+        wholeList = null;
         return people == 6 ? NONE : people++;
     }
 
-    boolean hour(int h) {
+    @Override
+    public boolean hour(int h) {
+        wholeList = null;
         boolean good = 0 <= h && h <= 10000 && h >= clock;
         clock = good ? h : clock;
         return good;
     }
 
-    boolean rules(int... told) {
+    @Override
+    public boolean rules(int damp, int risk, int bound, int quota, int ageing) {
+        int[] told = {damp, risk, bound, quota, ageing};
         int[] most = {50, 999, 40, 20, 100};
         for (int k = 0; k < 5; k++) {
             if (told[k] < 0 || told[k] > most[k]) {
@@ -77,10 +85,13 @@ final class PlainForum {
             }
         }
         rules = told;
+        wholeList = null;
         return true;
     }
 
-    int post(int author, int answers) {
+    @Override
+    public int post(int author, int answers) {
+        wholeList = null;
         if (!isPerson(author) || posts.size() == 40 || (answers != NONE && entry(answers) == null)) {
             return NONE;
         }
@@ -93,7 +104,9 @@ final class PlainForum {
         return e.number;
     }
 
-    boolean mark(int person, int post, int how) {
+    @Override
+    public boolean mark(int person, int post, int how) {
+        wholeList = null;
         Entry e = entry(post);
         if (e == null || !isPerson(person) || e.author == person || Math.abs((long) how) > 1) {
             return false;
@@ -105,7 +118,9 @@ final class PlainForum {
         return true;
     }
 
-    int takeBack(int person) {
+    @Override
+    public int takeBack(int person) {
+        wholeList = null;
         if (!isPerson(person)) {
             return NONE;
         }
@@ -116,7 +131,9 @@ final class PlainForum {
         return count;
     }
 
-    boolean pin(int post, boolean it) {
+    @Override
+    public boolean pin(int post, boolean it) {
+        wholeList = null;
         if (entry(post) != null) {
             entry(post).pinned = it;
         }
@@ -185,15 +202,18 @@ final class PlainForum {
         return determinant(table).multiply(BigInteger.valueOf(likeCount(person)));
     }
 
-    long lower() {
+    @Override
+    public long lower() {
         return bigLower().longValueExact();
     }
 
-    long upper(int person) {
+    @Override
+    public long upper(int person) {
         return isPerson(person) ? bigUpper(person).longValueExact() : NONE;
     }
 
-    long weight(int post) {
+    @Override
+    public long weight(int post) {
         Entry e = entry(post);
         return e == null ? 0 : weightOf(e).longValueExact();
     }
@@ -224,7 +244,8 @@ final class PlainForum {
         return true;
     }
 
-    int sure(int u, int d) {
+    @Override
+    public int sure(int u, int d) {
         if (u < 0 || d < 0 || (long) u + d > 6) {
             return NONE;
         }
@@ -254,21 +275,33 @@ final class PlainForum {
         return sure(e.count(1), e.count(-1)) - rules[4] * ((clock - e.hour) / 24);
     }
 
-    int postOf(int post, int what) {
+    @Override
+    public int postOf(int post, int what) {
         Entry e = entry(post);
-        if (e == null || what < 0 || what > 22 || (what > 11 && what < 20)) {
+        if (e == null) {
             return NONE;
         }
-        if (what >= 20) {
-            return e.jury.isEmpty() ? NONE : e.jury.get(what - 20);
-        }
-        int[] all = {e.author, e.hour, e.answers == null ? NONE : e.answers.number, e.root().number, e.count(1),
-            e.count(-1), sure(e.count(1), e.count(-1)), e.pinned ? 1 : 0, e.hidden ? 1 : 0, e.voters.size(),
-            e.standing(), greatness(e)};
-        return all[what];
+        return switch (what) {
+            case 0 -> e.author;
+            case 1 -> e.hour;
+            case 2 -> e.answers == null ? NONE : e.answers.number;
+            case 3 -> e.root().number;
+            case 4 -> e.count(1);
+            case 5 -> e.count(-1);
+            case 6 -> sure(e.count(1), e.count(-1));
+            case 7 -> e.pinned ? 1 : 0;
+            case 8 -> e.hidden ? 1 : 0;
+            case 9 -> e.voters.size();
+            case 10 -> e.standing();
+            case 11 -> greatness(e);
+            case 20, 21, 22 -> at(e.jury, what - 20);
+            default -> NONE;
+        };
     }
 
-    boolean hide(int person, int post) {
+    @Override
+    public boolean hide(int person, int post) {
+        wholeList = null;
         Entry e = entry(post);
         if (e == null || !isPerson(person) || e.author == person || e.wasHidden || !e.voters.add(person)) {
             return false;
@@ -282,7 +315,8 @@ final class PlainForum {
         return true;
     }
 
-    int appeal(int post, int seed) {
+    @Override
+    public int appeal(int post, int seed) {
         Entry e = entry(post);
         if (e == null || !e.hidden || !e.jury.isEmpty()) {
             return NONE;
@@ -313,7 +347,9 @@ final class PlainForum {
         return jury.get(0);
     }
 
-    int say(int post, int person, boolean stays) {
+    @Override
+    public int say(int post, int person, boolean stays) {
+        wholeList = null;
         Entry e = entry(post);
         if (e == null || e.standing() != 1 || !e.jury.contains(person) || e.said.containsKey(person)) {
             return NONE;
@@ -324,7 +360,7 @@ final class PlainForum {
     }
 
     /** THE LIST, from two sorted rows: the best and the newest ones. */
-    List<Integer> wholeList() {
+    private List<Integer> newList() {
         List<Integer> whole = new ArrayList<>();
         List<Entry> best = new ArrayList<>();
         for (Entry e : posts) {
@@ -352,17 +388,27 @@ final class PlainForum {
         return whole;
     }
 
-    int list() {
+    @Override
+    public int list() {
         return (int) posts.stream().filter(e -> !e.hidden).count();
     }
 
-    List<Integer> wholeTree(int root) {
+    @Override
+    public int listed(int i) {
+        if (wholeList == null) {
+            wholeList = newList();
+        }
+        return at(wholeList, i);
+    }
+
+    @Override
+    public int tree(int root, int i) {
         List<Integer> whole = new ArrayList<>();
         Entry e = entry(root);
         if (e != null && e.answers == null) {
             flatten(e, whole);
         }
-        return whole;
+        return at(whole, i);
     }
 
     private void flatten(Entry e, List<Integer> whole) {
@@ -374,11 +420,12 @@ final class PlainForum {
         }
     }
 
-    static int at(List<Integer> whole, int i) {
+    private static int at(List<Integer> whole, int i) {
         return i >= 0 && i < whole.size() ? whole.get(i) : NONE;
     }
 
-    int about(int what) {
+    @Override
+    public int about(int what) {
         int[] all = Arrays.copyOf(new int[] {people, posts.size(), clock}, 8);
         System.arraycopy(rules, 0, all, 3, 5);
         return what >= 0 && what < 8 ? all[what] : NONE;

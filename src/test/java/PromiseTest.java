@@ -51,8 +51,8 @@ public final class PromiseTest {
         CHECKS.due(call, got, want);
     }
 
-    private static ForumWeights forum(int people) {
-        ForumWeights x = new ForumWeights();
+    private static Forum forum(int people) {
+        Forum x = new RealForum();
         for (int p = 0; p < people; p++) {
             x.person();
         }
@@ -60,21 +60,21 @@ public final class PromiseTest {
     }
 
     /** Post p is that of person p, and answers none. */
-    private static ForumWeights forumWithAPostEach(int people) {
-        ForumWeights x = forum(people);
+    private static Forum forumWithAPostEach(int people) {
+        Forum x = forum(people);
         for (int p = 0; p < people; p++) {
             x.post(p, NONE);
         }
         return x;
     }
 
-    private static void aboutIs(String when, ForumWeights x, int... want) {
+    private static void aboutIs(String when, Forum x, int... want) {
         for (int what = 0; what < want.length; what++) {
             due(when + " about(" + what + ")", x.about(what), want[what]);
         }
     }
 
-    private static void listIs(String when, ForumWeights x, int... want) {
+    private static void listIs(String when, Forum x, int... want) {
         due(when + " list()", x.list(), want.length);
         for (int i = 0; i < want.length; i++) {
             due(when + " listed(" + i + ")", x.listed(i), want[i]);
@@ -85,7 +85,7 @@ public final class PromiseTest {
         due(when + " listed(MAX)", x.listed(Integer.MAX_VALUE), NONE);
     }
 
-    private static void treeIs(String when, ForumWeights x, int root, int... want) {
+    private static void treeIs(String when, Forum x, int root, int... want) {
         for (int i = 0; i < want.length; i++) {
             due(when + " tree(" + root + ", " + i + ")", x.tree(root, i), want[i]);
         }
@@ -97,7 +97,7 @@ public final class PromiseTest {
 
     // Promise 1
     private static void newObject() {
-        ForumWeights x = new ForumWeights();
+        Forum x = new RealForum();
         due("NONE", NONE, -1);
         aboutIs("new:", x, 0, 0, 0, 30, 100, 2, 0, 1);
         due("new: lower()", x.lower(), 1);
@@ -108,7 +108,7 @@ public final class PromiseTest {
 
     // Promise 2
     private static void people() {
-        ForumWeights x = new ForumWeights();
+        Forum x = new RealForum();
         for (int p = 0; p < 6; p++) {
             due("person()", x.person(), p);
             due("about(0)", x.about(0), p + 1);
@@ -120,7 +120,7 @@ public final class PromiseTest {
 
     // Promise 3
     private static void hours() {
-        ForumWeights x = new ForumWeights();
+        Forum x = new RealForum();
         due("hour(-1)", x.hour(-1), false);
         due("hour(0)", x.hour(0), true);
         due("hour(5)", x.hour(5), true);
@@ -137,7 +137,7 @@ public final class PromiseTest {
 
     // Promise 4
     private static void rules() {
-        ForumWeights x = new ForumWeights();
+        Forum x = new RealForum();
         int[] most = {50, 999, 40, 20, 100};
         int[] some = {7, 70, 17, 3, 9};
         due("rules, some", rulesOf(x, some), true);
@@ -155,13 +155,13 @@ public final class PromiseTest {
         aboutIs("least rules:", x, 0, 0, 0, 0, 0, 0, 0, 0);
     }
 
-    private static boolean rulesOf(ForumWeights x, int[] r) {
+    private static boolean rulesOf(Forum x, int[] r) {
         return x.rules(r[0], r[1], r[2], r[3], r[4]);
     }
 
     // Promise 5
     private static void posts() {
-        ForumWeights x = forum(2);
+        Forum x = forum(2);
         due("post answering itself", x.post(0, 0), NONE);
         due("post(0, NONE)", x.post(0, NONE), 0);
         due("post(1, 0)", x.post(1, 0), 1);
@@ -185,7 +185,7 @@ public final class PromiseTest {
 
     // Promise 6
     private static void marks() {
-        ForumWeights x = forumWithAPostEach(3);
+        Forum x = forumWithAPostEach(3);
         due("mark none where none is", x.mark(1, 0, 0), true);
         marksAre("none", x, 0, 0, 0);
         due("mark up", x.mark(1, 0, 1), true);
@@ -213,14 +213,14 @@ public final class PromiseTest {
         marksAre("nor elsewhere", x, 1, 0, 0);
     }
 
-    private static void marksAre(String when, ForumWeights x, int post, int ups, int downs) {
+    private static void marksAre(String when, Forum x, int post, int ups, int downs) {
         due(when + ": ups", x.postOf(post, 4), ups);
         due(when + ": downs", x.postOf(post, 5), downs);
     }
 
     // Promise 7
     private static void takingBack() {
-        ForumWeights x = forumWithAPostEach(3);
+        Forum x = forumWithAPostEach(3);
         x.post(1, 0);
         x.mark(0, 1, 1);
         x.mark(0, 2, -1);
@@ -243,7 +243,7 @@ public final class PromiseTest {
 
     // Promise 8
     private static void pins() {
-        ForumWeights x = forumWithAPostEach(2);
+        Forum x = forumWithAPostEach(2);
         due("not pinned at first", x.postOf(1, 7), 0);
         due("pin off where it is off", x.pin(1, false), true);
         due("still not pinned", x.postOf(1, 7), 0);
@@ -261,14 +261,14 @@ public final class PromiseTest {
 
     // Promise 9
     private static void lowers() {
-        ForumWeights x = new ForumWeights();
+        Forum x = new RealForum();
         long want = 1;
         for (int p = 0; p < 6; p++) {
             x.person();
             want *= 100;
             due("lower() of no marks", x.lower(), want);
         }
-        ForumWeights two = forumWithAPostEach(2);
+        Forum two = forumWithAPostEach(2);
         two.mark(0, 1, 1);
         due("lower() of one like", two.lower(), 10000);
         two.mark(1, 0, 1);
@@ -280,7 +280,7 @@ public final class PromiseTest {
         two.rules(50, 100, 2, 0, 1);
         two.mark(1, 0, -1);
         due("lower(): a mark down is no like", two.lower(), 10000);
-        ForumWeights ring = forumWithAPostEach(3);
+        Forum ring = forumWithAPostEach(3);
         ring.mark(0, 1, 1);
         ring.mark(1, 2, 1);
         ring.mark(2, 0, 1);
@@ -290,8 +290,8 @@ public final class PromiseTest {
         due("lower() where all like all", everybodyLikesAll().lower(), 550L * 550 * 550 * 550 * 550 * 250);
     }
 
-    private static ForumWeights everybodyLikesAll() {
-        ForumWeights x = forumWithAPostEach(6);
+    private static Forum everybodyLikesAll() {
+        Forum x = forumWithAPostEach(6);
         x.rules(50, 100, 2, 0, 1);
         for (int p = 0; p < 6; p++) {
             for (int q = 0; q < 6; q++) {
@@ -303,7 +303,7 @@ public final class PromiseTest {
 
     // Promise 10
     private static void uppers() {
-        ForumWeights x = forumWithAPostEach(3);
+        Forum x = forumWithAPostEach(3);
         due("upper(0) of no marks", x.upper(0), 1000000);
         x.mark(0, 1, 1);
         due("upper(1), liked by one", x.upper(1), 1300000);
@@ -325,7 +325,7 @@ public final class PromiseTest {
         for (int far : FAR) {
             due("upper(" + far + ")", x.upper(far), NONE);
         }
-        ForumWeights all = everybodyLikesAll();
+        Forum all = everybodyLikesAll();
         for (int p = 0; p < 6; p++) {
             due("upper where all like all", all.upper(p), 2 * 550L * 550 * 550 * 550 * 550 * 250);
         }
@@ -333,7 +333,7 @@ public final class PromiseTest {
 
     // Promise 11
     private static void weights() {
-        ForumWeights x = forumWithAPostEach(4);
+        Forum x = forumWithAPostEach(4);
         due("weight of no marks", x.weight(0), 0);
         x.mark(1, 0, 1);
         due("weight, one up", x.weight(0), 100000000);
@@ -351,7 +351,7 @@ public final class PromiseTest {
 
     // Promise 12
     private static void whatPostsTell() {
-        ForumWeights x = forum(4);
+        Forum x = forum(4);
         x.hour(3);
         x.post(2, NONE);
         x.hour(30);
@@ -384,7 +384,7 @@ public final class PromiseTest {
 
     // Promise 12, the days
     private static void greatnessAndSure() {
-        ForumWeights x = forumWithAPostEach(2);
+        Forum x = forumWithAPostEach(2);
         x.mark(0, 1, 1);
         due("SURE of one up", x.postOf(1, 6), 10);
         due("greatness at once", x.postOf(1, 11), 10);
@@ -403,7 +403,7 @@ public final class PromiseTest {
 
     // Promise 13
     private static void sures() {
-        ForumWeights x = new ForumWeights();
+        Forum x = new RealForum();
         int[][] want = {
             {0, 0, 0, 0, 0, 0, 0}, {10, 5, 3, 2, 2, 1}, {31, 19, 14, 11, 9}, {46, 32, 24, 20}, {56, 41, 33},
             {63, 48}, {68},
@@ -428,7 +428,7 @@ public final class PromiseTest {
 
     // Promise 13, the edges of RISK
     private static void suresAtEdgesOfRisk() {
-        ForumWeights x = new ForumWeights();
+        Forum x = new RealForum();
         x.rules(30, 0, 2, 0, 1);
         due("sure(1, 0) at RISK 0", x.sure(1, 0), 0);
         due("sure(6, 0) at RISK 0", x.sure(6, 0), 0);
@@ -450,7 +450,7 @@ public final class PromiseTest {
 
     // Promise 14
     private static void hiding() {
-        ForumWeights x = forumWithAPostEach(4);
+        Forum x = forumWithAPostEach(4);
         due("hide(1, 0)", x.hide(1, 0), true);
         due("one of worth 1 is below 2", x.postOf(0, 8), 0);
         due("hide(1, 0) again", x.hide(1, 0), false);
@@ -482,7 +482,7 @@ public final class PromiseTest {
 
     // Promise 14, the worths at the time of the vote
     private static void hidingIsByWorth() {
-        ForumWeights x = forumWithAPostEach(6);
+        Forum x = forumWithAPostEach(6);
         x.rules(50, 100, 3, 0, 1);
         x.hide(1, 0);
         x.mark(3, 1, 1);
@@ -501,7 +501,7 @@ public final class PromiseTest {
 
     // Promise 15
     private static void appeals() {
-        ForumWeights x = forumWithAPostEach(5);
+        Forum x = forumWithAPostEach(5);
         due("an appeal of a shown one", x.appeal(0, 1), NONE);
         x.rules(30, 100, 1, 0, 1);
         x.hide(1, 0);
@@ -523,7 +523,7 @@ public final class PromiseTest {
     // Promise 15, who is in the pool
     private static void pools() {
         for (int kind = 0; kind < 7; kind++) {
-            ForumWeights x = forum(5);
+            Forum x = forum(5);
             x.rules(30, 100, 1, 0, 1);
             x.post(0, NONE);
             x.post(0, 0);
@@ -542,7 +542,7 @@ public final class PromiseTest {
             }
             due("pool of kind " + kind, x.appeal(2, 1) != NONE, isIn);
         }
-        ForumWeights x = forum(5);
+        Forum x = forum(5);
         x.post(0, NONE);
         x.rules(30, 100, 2, 0, 1);
         x.hide(1, 0);
@@ -557,7 +557,7 @@ public final class PromiseTest {
         int[][] seedsAndJuries = {{0, 2, 5, 3}, {1, 4, 2, 5}, {-1, 3, 5, 2}, {5, 5, 4, 2}, {123456789, 2, 4, 3},
             {Integer.MAX_VALUE, 3, 4, 2}, {Integer.MIN_VALUE, 2, 3, 4}};
         for (int[] row : seedsAndJuries) {
-            ForumWeights x = forumWithAPostEach(6);
+            Forum x = forumWithAPostEach(6);
             x.rules(30, 100, 1, 0, 1);
             x.hide(1, 0);
             due("appeal with seed " + row[0], x.appeal(0, row[0]), row[1]);
@@ -572,7 +572,7 @@ public final class PromiseTest {
 
     // Promise 15, a jury of the first numbers
     private static void juryOfTheFirst() {
-        ForumWeights x = forumWithAPostEach(5);
+        Forum x = forumWithAPostEach(5);
         x.rules(30, 100, 1, 0, 1);
         x.hide(3, 4);
         // 12345 has an upper half of 0: place 0 of {0, 1, 2}; the next two fall on place 0 as well
@@ -584,8 +584,8 @@ public final class PromiseTest {
         due("person 1 says", x.say(4, 1, false), 2);
     }
 
-    private static ForumWeights forumWithAppeal() {
-        ForumWeights x = forumWithAPostEach(6);
+    private static Forum forumWithAppeal() {
+        Forum x = forumWithAPostEach(6);
         x.rules(30, 100, 1, 0, 1);
         x.hide(1, 0);
         x.appeal(0, 1); // the jury is 4, 2, 5
@@ -594,7 +594,7 @@ public final class PromiseTest {
 
     // Promise 16
     private static void saying() {
-        ForumWeights x = forumWithAppeal();
+        Forum x = forumWithAppeal();
         for (int p : new int[] {0, 1, 3, 6, -1, -2, 32, Integer.MIN_VALUE, Integer.MAX_VALUE}) {
             due("say by " + p, x.say(0, p, false), NONE);
         }
@@ -614,7 +614,7 @@ public final class PromiseTest {
         due("say when it is over", x.say(0, 5, true), NONE);
         due("a vote when it was hidden once", x.hide(3, 0), false);
         due("an appeal when it is shown again", x.appeal(0, 1), NONE);
-        ForumWeights y = forumWithAppeal();
+        Forum y = forumWithAppeal();
         y.say(0, 2, false);
         due("two noes end it", y.say(0, 4, false), 2);
         due("the third is too late", y.say(0, 5, true), NONE);
@@ -622,7 +622,7 @@ public final class PromiseTest {
 
     // Promise 16, two that say yes
     private static void keptHidden() {
-        ForumWeights x = forumWithAppeal();
+        Forum x = forumWithAppeal();
         due("the first yes", x.say(0, 5, true), 1);
         due("the second yes", x.say(0, 2, true), 3);
         due("kept hidden", x.postOf(0, 8), 1);
@@ -634,7 +634,7 @@ public final class PromiseTest {
 
     // Promises 17 and 18
     private static void lists() {
-        ForumWeights x = forumWithAPostEach(5);
+        Forum x = forumWithAPostEach(5);
         listIs("alike, by numbers:", x, 0, 1, 2, 3, 4);
         x.mark(0, 3, 1);
         listIs("the greater SURE:", x, 3, 0, 1, 2, 4);
@@ -652,7 +652,7 @@ public final class PromiseTest {
 
     // Promise 18, the newest
     private static void listsByQuota() {
-        ForumWeights x = forumWithAPostEach(6);
+        Forum x = forumWithAPostEach(6);
         x.hour(1);
         x.post(0, NONE);
         int[][] wants = {{0, 1, 2, 3, 4, 5, 6}, {6, 5, 4, 3, 2, 1, 0}, {0, 6, 1, 5, 2, 4, 3}, {0, 1, 6, 2, 3, 5, 4}};
@@ -671,7 +671,7 @@ public final class PromiseTest {
 
     // Promise 18, the best
     private static void listsByGreatness() {
-        ForumWeights x = forumWithAPostEach(4);
+        Forum x = forumWithAPostEach(4);
         x.mark(0, 1, 1);
         x.hour(24 * 10);
         x.post(0, NONE);
@@ -691,7 +691,7 @@ public final class PromiseTest {
 
     // Promises 17 and 18, as long as it gets
     private static void longestLists() {
-        ForumWeights x = forum(1);
+        Forum x = forum(1);
         int[] rising = new int[40];
         int[] falling = new int[40];
         for (int number = 0; number < 40; number++) {
@@ -710,7 +710,7 @@ public final class PromiseTest {
 
     // Promises 17 and 18, hidden ones
     private static void hiddenOnesInLists() {
-        ForumWeights x = forumWithAPostEach(6);
+        Forum x = forumWithAPostEach(6);
         x.rules(30, 100, 1, 0, 1);
         x.pin(0, true);
         x.hide(1, 0);
@@ -725,7 +725,7 @@ public final class PromiseTest {
 
     // Promise 19
     private static void trees() {
-        ForumWeights x = forum(2);
+        Forum x = forum(2);
         x.post(0, NONE);
         x.post(0, NONE);
         int[] answered = {0, 1, 0, 2, 4, 2, 3, 0};
@@ -748,8 +748,8 @@ public final class PromiseTest {
 
     // Promise 19, as deep and as broad as it goes
     private static void deepTrees() {
-        ForumWeights deep = forum(1);
-        ForumWeights broad = forum(1);
+        Forum deep = forum(1);
+        Forum broad = forum(1);
         int[] rising = new int[40];
         for (int number = 0; number < 40; number++) {
             deep.post(0, number - 1);
@@ -766,7 +766,7 @@ public final class PromiseTest {
 
     // Promise 20
     private static void aboutIt() {
-        ForumWeights x = forumWithAPostEach(4);
+        Forum x = forumWithAPostEach(4);
         x.post(0, 0);
         x.hour(77);
         x.rules(11, 22, 33, 14, 55);
