@@ -28,6 +28,7 @@ public final class HidingEdgeTest {
         worthsAreThoseOfTheVote();
         boundIsThatOfTheVote();
         noVoteWhenItWasHiddenEver();
+        hiddenOnesArePostsStill();
         onlyHiddenOnesHaveAnAppeal();
         oneAppealForEachPost();
         aPoolOfThreeIsEnough();
@@ -36,6 +37,8 @@ public final class HidingEdgeTest {
         thePoolLeavesOutThoseWhoVoted();
         thePoolLeavesOutThoseWhoMarkedInTheTree();
         thePoolLeavesOutThoseWhoWroteInTheTree();
+        thePoolLeavesOutWhoDidBoth();
+        thePoolKeepsWhoVotedOnAnotherPostOfTheTree();
         thePoolKeepsThoseOfOtherTrees();
         thePoolIsThatOfTheAppeal();
         thirtyTwoBitsWrapAround();
@@ -275,6 +278,26 @@ public final class HidingEdgeTest {
         return answer;
     }
 
+    /** The document refuses a hidden post's marks, answers and pins nowhere. */
+    private static void hiddenOnesArePostsStill() {
+        CHECKS.of("Promises 5, 6, 8 and 19", "a post");
+        Forum x = forumWithHidden();
+        due("mark", x.mark(2, 0, 1), true);
+        due("ups", x.postOf(0, 4), 1);
+        due("WEIGHT", x.weight(0), 1_000_000_000_000L);
+        due("its author's worth", x.upper(0), 1_300_000_000_000L);
+        due("takeBack", x.takeBack(2), 1);
+        due("an answer", x.post(3, 0), 6);
+        due("the answer's ROOT", x.postOf(6, 3), 0);
+        due("its tree", x.tree(0, 0), 0);
+        due("its tree's answer", x.tree(0, 1), 6);
+        due("pin", x.pin(0, true), true);
+        due("pinned", x.postOf(0, 7), 1);
+        due("list()", x.list(), 6);
+        due("listed(0)", x.listed(0), 1);
+        due("hidden", x.postOf(0, 8), 1);
+    }
+
     private static void onlyHiddenOnesHaveAnAppeal() {
         CHECKS.of("Promise 15", "it isn't HIDDEN");
         Forum x = Scene.forumWithAPostEach(6);
@@ -340,7 +363,7 @@ public final class HidingEdgeTest {
         }
     }
 
-    /** Whether a person may be drawn: with one more out, the other three of 2 .. 5 must be the jury. */
+    /** There is a jury, and the person is not of it. */
     private static void isOut(String why, Forum x, int post, int person) {
         due(why + ": appeal", x.appeal(post, 1) != NONE, true);
         for (int what = 20; what <= 22; what++) {
@@ -416,6 +439,39 @@ public final class HidingEdgeTest {
                 y.post(2, 6);
                 due("two of four answered " + answered, y.appeal(hidden, 1), NONE);
             }
+        }
+    }
+
+    /** Who voted and has a mark or a post in the tree is out once, and not in again for being out twice. */
+    private static void thePoolLeavesOutWhoDidBoth() {
+        CHECKS.of("Terms III", "other than the author, those who voted to hide it, and those who have a MARK on");
+        for (int post = 0; post <= 3; post++) {
+            for (int hidden = 0; hidden <= 3; hidden++) {
+                Forum x = forumWithTrees(hidden);
+                x.mark(1, post, 1);
+                x.mark(2, post, 1);
+                isOut("who voted and marked " + post, x, hidden, 1);
+                Forum y = forumWithTrees(hidden);
+                y.post(1, post);
+                y.post(2, post);
+                isOut("who voted and answered " + post, y, hidden, 1);
+                Forum z = forumWithTrees(hidden);
+                z.post(2, post);
+                z.mark(2, post, -1);
+                isOut("who marked and answered " + post, z, hidden, 2);
+            }
+        }
+    }
+
+    private static void thePoolKeepsWhoVotedOnAnotherPostOfTheTree() {
+        CHECKS.of("Terms III", "those who voted to hide it");
+        for (int hidden = 0; hidden <= 3; hidden++) {
+            Forum x = forumWithTrees(hidden);
+            for (int person = 2; person <= 5; person++) {
+                x.hide(person, (hidden + 1) % 4);
+                x.hide(person, (hidden + 2) % 4);
+            }
+            due("all four are in the pool of " + hidden, x.appeal(hidden, 1), 4);
         }
     }
 

@@ -411,6 +411,11 @@ public final class ListEdgeTest {
         x.mark(4, 5, 1);
         // 1 has a like now, so its mark on 3 weighs more than that of 0 on 2
         listIs("1 is worth more:", x, 3, 2, 5, 0, 1, 4);
+        x.rules(0, 100, 2, 0, 1);
+        listIs("at DAMP 0 all are of like worth:", x, 2, 3, 5, 0, 1, 4);
+        x.rules(1, 0, 2, 0, 1);
+        listIs("at DAMP 1 it is worth more again:", x, 3, 2, 5, 0, 1, 4);
+        x.rules(30, 100, 2, 0, 1);
         x.takeBack(4);
         listIs("1 is worth no more:", x, 2, 3, 0, 1, 4, 5);
     }

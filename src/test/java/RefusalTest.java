@@ -405,6 +405,11 @@ public final class RefusalTest {
             for (int person : notPeople(SOME)) {
                 refused(SOME, "say(2, " + person + ", " + stays + ")", x -> x.say(2, person, stays), NONE);
             }
+            for (int person = 0; person < 6; person++) {
+                int far = person + 32;
+                refused(SOME, "say(2, " + far + ", " + stays + ")", x -> x.say(2, far, stays), NONE);
+                refused(SOME, "say(2, " + (far - 64) + ", " + stays + ")", x -> x.say(2, far - 64, stays), NONE);
+            }
             refused(SOME, "say(2, 2, " + stays + ") by the author", x -> x.say(2, 2, stays), NONE);
             refused(SOME, "say(2, 0, " + stays + ") by who voted", x -> x.say(2, 0, stays), NONE);
             refused(FULL, "say(0, 0, " + stays + ") by the author", x -> x.say(0, 0, stays), NONE);

@@ -16,6 +16,7 @@ public final class TermsEdgeTest {
         aNewObjectIsEmpty();
         aNewObjectHasItsRules();
         objectsShareNothing();
+        call512IsAnsweredToo();
         peopleAreNoughtToFive();
         sixthPersonIsTheLast();
         onlyThoseWhoAreThereCount();
@@ -106,6 +107,19 @@ public final class TermsEdgeTest {
         due("listed(0) beside a full one", x.listed(0), 0);
         due("the full one's people", before.about(0), 6);
         due("the full one's posts", before.about(1), 40);
+    }
+
+    /** 6 + 40 + 3 * 155 calls, and one more. */
+    private static void call512IsAnsweredToo() {
+        CHECKS.of("What it is", "An object is used for at most 512 calls after it has been made");
+        Forum x = Scene.forum(6);
+        Scene.posts(x, 40, 0, NONE);
+        for (int k = 0; k < 155; k++) {
+            due("mark " + k, x.mark(1 + k % 5, k / 5, k % 3 == 0 ? -1 : 1), true);
+            due("hour " + k, x.hour(k), true);
+            due("listed(39) " + k, x.listed(39) != NONE, true);
+        }
+        due("call 512: the 155 marks are 31 of each", x.takeBack(5), 31);
     }
 
     private static void peopleAreNoughtToFive() {

@@ -117,7 +117,9 @@ final class Whole {
     private void trySaying(int first, int last, boolean stays) {
         x = maker.get();
         for (int post = first; post <= last; post++) {
-            for (int person = 0; person < 6; person++) {
+            // the last drawn says first, so that the words of those before it show in what it is answered
+            for (int what = 22; what >= 20; what--) {
+                int person = x.postOf(post, what);
                 row("then say(" + post + ", " + person + ", " + stays + ")", x.say(post, person, stays));
             }
             row("then postOf(" + post + ", 8)", x.postOf(post, 8));

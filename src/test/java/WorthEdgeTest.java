@@ -97,6 +97,7 @@ public final class WorthEdgeTest {
         x.mark(0, 0, 1);
         uppersAre("one post:", x, 1000000, 1000000, 1300000, 1000000);
         x.mark(0, 1, 1);
+        uppersAre("two posts of one:", x, 1000000, 1000000, 1300000, 1000000);
         x.mark(0, 2, 1);
         uppersAre("three posts of one:", x, 1000000, 1000000, 1300000, 1000000);
         x.mark(0, 3, 1);
