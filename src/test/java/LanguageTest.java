@@ -17,7 +17,7 @@ import java.util.regex.Pattern;
 public final class LanguageTest {
     private static final Path SOURCE = Path.of("src/main/java/ForumWeights.java");
 
-    private static final Set<String> FACE = Set.of(
+    static final Set<String> FACE = Set.of(
             "int person()", "boolean hour(int)", "boolean rules(int, int, int, int, int)", "int post(int, int)",
             "boolean mark(int, int, int)", "int takeBack(int)", "boolean pin(int, boolean)", "long lower()",
             "long upper(int)", "long weight(int)", "int postOf(int, int)", "int sure(int, int)",
